@@ -47,6 +47,7 @@ public final class PromiseTest {
         log();
         reset();
         count();
+        sixServices();
         trialsChangeNothing();
         due.end();
     }
@@ -335,6 +336,9 @@ public final class PromiseTest {
         for (int s = 0; s < 3; s++) {
             due.is("reader " + s, t.about(s, 7), 1);
         }
+        TwiceOnce both = Due.with("ask 1 x;ask 2 x", "get 0", "get 0");
+        due.is("asks for two readers", both.about(0, 7), 1);
+        due.is("asks for one reader", Due.with("ask 1 x;ask 2 x", "new 0", "get 0").about(0, 7), 0);
         due.is("an ask that does nothing", Due.with("add 0 1", "ask 0 0;ask 1 0;ask 5 0").about(1, 7),
                 1);
     }
@@ -499,6 +503,17 @@ public final class PromiseTest {
         due.is("the oldest is gone", t.call(0, 0, 1, 0), 18);
         due.is("now the second is gone", t.call(0, 0, 2, 0), 19);
         due.is("the 16th is there", t.call(0, 0, 16, 0), 16);
+        TwiceOnce x = Due.with("new 0");
+        x.mend(0, 0, 1);
+        x.hold(0, 17);
+        for (int k = 1; k <= 17; k++) {
+            x.call(0, 100 + k, k, 0);
+        }
+        due.is("all with their x", x.call(0, 102, 2, 0), 2);
+        due.is("all with their x", x.call(0, 103, 2, 0), -1);
+        due.is("all with their ticks", x.about(0, 5), 16);
+        x.call(0, 0, 0, 0);
+        due.is("tick 20: the one of tick 2 is over", x.about(0, 5), 15);
     }
 
     private static void keyedHold() {
@@ -516,6 +531,23 @@ public final class PromiseTest {
         t.hold(0, 1);
         due.is("hold 1", t.call(0, 0, 5, 0), 4);
         due.is("an answer does not keep it anew", t.call(0, 0, 5, 0), 5);
+        TwiceOnce some = Due.with("new 0", "new 0");
+        some.mend(0, 0, 1);
+        some.mend(1, 0, 1);
+        some.hold(0, 2);
+        some.hold(1, 3);
+        some.call(0, 11, 1, 0);
+        some.call(0, 12, 2, 0);
+        some.call(1, 13, 1, 0);
+        due.is("of the other service", some.call(1, 13, 1, 0), 1);
+        due.is("the first is over", some.about(0, 5), 1);
+        due.is("the second is not", some.hold(0, 3), 2);
+        due.is("its x", some.call(0, 11, 2, 0), -1);
+        some.hold(0, 4);
+        due.is("its answer", some.call(0, 12, 2, 0), 2);
+        due.is("its tick", some.about(0, 5), 1);
+        due.is("over", some.call(0, 12, 2, 0), 3);
+        due.is("done anew", some.call(0, 11, 1, 0), 4);
     }
 
     private static void first() {
@@ -554,7 +586,12 @@ public final class PromiseTest {
         due.is("first passed key", t.call(1, 3, 7, 0), 3);
         due.is("second passed key", t.call(1, 3, 14, 0), 4);
         due.is("refused inside", t.call(0, 4, 98, 0), -1);
+        due.is("keys", t.about(1, 5), 2);
         due.is("without a key none is passed", t.call(0, 3, 0, 0), 6);
+        due.is("keys", t.about(1, 5), 2);
+        due.is("key 1 is passed", t.call(0, 3, 1, 0), 8);
+        due.is("keys", t.about(1, 5), 4);
+        due.is("key 1 passes 9 at place 1", t.call(1, 3, 9, 0), 7);
         TwiceOnce wrong = Due.with("ask 1 x;do r;get 0;ask 1 9", "new 0");
         wrong.mend(0, 2, 1);
         wrong.mend(1, 0, 1);
@@ -613,6 +650,23 @@ public final class PromiseTest {
         r.call(0, 1, 0, 0);
         due.is("another C", r.about(0, 1), 1);
         due.is("another word", r.about(0, 0), 1);
+        equalNot("set 2 5", "max 0 5", 0);
+        equalNot("set 0 5", "set 1 4", 1);
+        equalNot("set 0 5", "set 0 4", 0);
+        equalNot("max 3 5", "set 3 5", 3);
+        equalNot("do 5", "set 0 5", 0);
+    }
+
+    /** An act at the place of another one is done, however near they are. */
+    private static void equalNot(String one, String other, int cell) {
+        TwiceOnce t = Due.with(one);
+        t.mend(0, 3, 1);
+        t.call(0, 1, 2, 0);
+        t.set(0, cell, 0);
+        Due.feed(t, other);
+        t.change(0);
+        t.call(0, 1, 2, 0);
+        due.is(one + ", " + other, t.about(0, cell), other.charAt(other.length() - 1) - '0');
     }
 
     private static void equalKnows() {
@@ -827,6 +881,55 @@ public final class PromiseTest {
         due.is("refused both times", keys.safe(0, 0, 0), 1);
         keys.hold(0, 0);
         due.is("not held", keys.safe(0, 0, 0), 0);
+        safeFromNow();
+        safeOfOthersThatFall();
+    }
+
+    private static void safeFromNow() {
+        TwiceOnce kept = Due.with("add 0 x;get 0");
+        kept.mend(0, 0, 1);
+        kept.call(0, 7, 1, 0);
+        kept.call(0, 8, 2, 0);
+        kept.row(0, 8, 2);
+        kept.hold(0, 2);
+        // Tick 3 comes first, tick 4 again: up to then the key of tick 2 is kept.
+        due.is("answered both times", kept.safe(0, 0, 1), 1);
+        kept.row(0, 8, 2);
+        due.is("over at the end", kept.safe(0, 1, 0), 0);
+        TwiceOnce known = Due.with("set 0 x;get 0;set 0 9");
+        known.mend(0, 3, 1);
+        known.row(0, 1, 4);
+        due.is("nothing known yet: answers 1, 9", known.safe(0, 0, 0), 0);
+        known.call(0, 1, 4, 0);
+        due.is("known: answers 9, 9", known.safe(0, 0, 0), 1);
+        known.call(0, 1, 5, 0);
+        due.is("another key is known", known.safe(0, 0, 0), 0);
+        known.call(0, 2, 4, 0);
+        due.is("another x is known", known.safe(0, 0, 0), 0);
+        TwiceOnce lone = Due.with("get 0;set 0 1;do r;get 0");
+        lone.row(0, 0, 0);
+        due.is("the first act outside differs", lone.safe(0, 0, 3), 0);
+        due.is("no difference yet", lone.safe(0, 0, 2), 1);
+    }
+
+    private static void safeOfOthersThatFall() {
+        // The flag of service 2 is 1 when b comes, or 2; then b asks for more than 60 acts. The
+        // last call, with x 9, makes the flag 0.
+        String eight = "ask 3 0;ask 3 0;ask 3 0;ask 3 0;ask 3 0;ask 3 0;ask 3 0;ask 3 0";
+        String gets = "get 0;get 0;get 0;get 0;get 0;get 0;get 0;get 0";
+        TwiceOnce t = Due.with("ask 2 0;if 1 r;ask 1 0;get 0", eight,
+                "add 0 x;if 0 10;set 0 0;if 0 11;set 0 0;get 0", gets);
+        t.free(1);
+        t.row(2, 1, 0);
+        t.row(0, 0, 0);
+        t.row(2, 9, 0);
+        t.set(0, 1, 3);
+        due.is("never", t.safe(0, 0, 0), 1);
+        t.set(0, 1, 2);
+        due.is("falls if the first comes twice", t.safe(0, 0, 0), 0);
+        due.is("not if it comes again behind", t.safe(0, 1, 0), 1);
+        t.set(0, 1, 1);
+        due.is("falls if the first comes once", t.safe(0, 0, 0), 0);
     }
 
     private static void worst() {
@@ -947,6 +1050,72 @@ public final class PromiseTest {
         keys.hold(0, 2);
         due.is("hold 2", keys.orders(1, 1), 10);
         due.is("nothing is changed", keys.about(0, 0), 0);
+        ordersOfAFlag();
+        ordersOfMuch();
+    }
+
+    private static void ordersOfAFlag() {
+        // a adds 1 to the flag, b tells it, c adds 9; 10 and 11 become 0. Once: the flag is 0 at
+        // the end, and 0, 1 or 9 was told. Twice a: aabc tells 2; aacb, abac, baac end likewise; in
+        // all others the flag is 1 at the end.
+        String flag = "add 0 x;if 0 10;set 0 0;if 0 11;set 0 0;get 0";
+        TwiceOnce t = Due.with("ask 1 0;do r", flag);
+        t.row(1, 1, 0);
+        t.row(0, 0, 0);
+        t.row(1, 9, 0);
+        due.is("the flag", t.orders(0, 1), 3);
+        // Now abc does 8 7, aabc does 7 8: the same heap.
+        TwiceOnce h = Due.with("ask 1 0;set 0 r;if 0 2;do 7;do 8;if 0 1;do 7;set 0 0", flag);
+        h.row(1, 1, 0);
+        h.row(0, 0, 0);
+        h.row(1, 9, 0);
+        due.is("heaps in another order", h.orders(0, 1), 4);
+    }
+
+    private static void ordersOfMuch() {
+        String eight = "do 9;do 8;do 7;do 6;do 5;do 4;do 3;do x";
+        String six = "ask 5 x;ask 5 x;ask 5 x;ask 5 x;ask 5 x;ask 5 x";
+        TwiceOnce t = Due.with(six, "get 0", "get 0", "get 0", "get 0", eight);
+        for (int key = 1; key <= 4; key++) {
+            t.row(0, key, key);
+        }
+        due.is("48 acts each, five times", t.orders(2, 1), 0);
+        t.mend(0, 0, 1);
+        due.is("keyed", t.orders(2, 1), 60);
+        TwiceOnce last = Due.with("get 0", "get 0", "get 0", "get 0", "get 0", "add 3 1");
+        last.row(5, 0, 0);
+        last.row(0, 0, 0);
+        due.is("the last cell", last.orders(0, 1), 0);
+        due.is("the other call", last.orders(1, 1), 3);
+    }
+
+    private static void sixServices() {
+        due.part("six services");
+        TwiceOnce t = Due.with("ask 5 x", "get 0", "get 0", "get 0", "get 0", "add 3 x;do x");
+        t.mend(5, 0, 1);
+        t.mend(0, 2, 1);
+        due.is("call", t.call(0, 4, 1, 0), 0);
+        due.is("cell", t.about(5, 3), 4);
+        due.is("keys", t.about(5, 5), 1);
+        due.is("reader", t.about(1, 7), 1);
+        due.is("no reader", t.about(0, 7), 0);
+        t.row(0, 2, 3);
+        due.is("a fall between", t.worst(), 3);
+        due.is("enough", t.enough(), TwiceOnce.NONE);
+        due.is("cheapest", t.cheapest(0), TwiceOnce.NONE);
+        Due.feed(t, "add 3 x");
+        due.is("change", t.change(5), 1);
+        due.is("safe", t.worst(), TwiceOnce.NONE);
+        due.is("enough", t.enough(), 1);
+        t.mend(5, 0, 0);
+        due.is("cheapest", t.cheapest(1), 1);
+        t.price(0, 9);
+        due.is("no other way", t.cheapest(0), 9);
+        due.is("again", t.again(), 0);
+        due.is("reset", t.reset(), 1);
+        due.is("cell", t.about(5, 3), 0);
+        due.is("keys", t.about(5, 5), 0);
+        due.is("again", t.again(), 1);
     }
 
     private static void enough() {
@@ -1186,6 +1355,8 @@ public final class PromiseTest {
         due.is("the oldest", t.log(0, 1), 100);
         due.is("the latest", t.log(19, 1), 119);
         due.is("its key", t.log(19, 2), 19);
+        due.is("another key", t.log(1, 2), 1);
+        due.is("its service", t.log(0, 0), 0);
         due.is("none", t.log(20, 1), TwiceOnce.NONE);
     }
 
