@@ -1034,6 +1034,9 @@ public final class BoundaryTest {
         likeInCounts();
         likeInActsOutside();
         likeInAnswers();
+        beginsWithStoresAndCounts();
+        beginsWithKeys();
+        beginsWithWhatEqualKnows();
         worstFalls();
         worstIsTheFirst();
     }
@@ -1204,6 +1207,95 @@ public final class BoundaryTest {
         due.is("second 1", last.safe(0, 0, 5), 0);
     }
 
+    private static void beginsWithStoresAndCounts() {
+        due.part("all begins as it is now, both times: STORES, COUNTS, PROGRAMS, MENDS");
+        TwiceOnce t = Due.with("if 3 5;add 1 1");
+        t.row(0, 0, 7);
+        due.is("the cell is 0", t.safe(0, 0, 0), 1);
+        t.set(0, 3, 5);
+        due.is("the cell is 5", t.safe(0, 0, 0), 0);
+        t.mend(0, KEYED, 1);
+        due.is("KEYED", t.safe(0, 0, 0), 1);
+        t.hold(0, 0);
+        due.is("with HOLD 0", t.safe(0, 0, 0), 0);
+        change(t, 0, "set 1 1");
+        due.is("another program", t.safe(0, 0, 0), 1);
+        due.is("nothing came of it", t.about(0, 1), 0);
+        // One new number, 7, is told: of the first coming, of the second one, of none.
+        for (int count = 4; count <= 7; count++) {
+            TwiceOnce n = Due.with("new 0;if 0 7;do 1;set 0 0", "get 0");
+            for (int i = 0; i < count; i++) {
+                n.call(0, 0, 0, 2);
+            }
+            n.set(0, 0, 0);
+            n.row(0, 0, 0);
+            n.row(1, 0, 0);
+            due.is("count " + count, n.orders(0, 1), count == 5 ? 0 : 3);
+        }
+    }
+
+    /** In tick 1 a key was kept with x 5 and the ANSWER 9; a row of one call with that key. */
+    private static TwiceOnce keptNine(int x) {
+        TwiceOnce t = Due.with("get 0");
+        t.mend(0, KEYED, 1);
+        t.set(0, 0, 9);
+        t.call(0, 5, 8, 0);
+        t.row(0, x, 8);
+        // The first coming is in tick 2, the second one in tick 3, where the key is over.
+        t.hold(0, 1);
+        return t;
+    }
+
+    private static void beginsWithKeys() {
+        due.part("all begins as it is now: KEYS with x, ANSWER and TICK");
+        due.is("answered 9, then it is 9", keptNine(5).safe(0, 0, 0), 1);
+        due.is("refused, then it is 9", keptNine(6).safe(0, 0, 0), 0);
+        TwiceOnce zero = keptNine(5);
+        zero.set(0, 0, 0);
+        due.is("answered 9, then it is 0", zero.safe(0, 0, 0), 0);
+        zero.hold(0, 0);
+        due.is("over at once: 0, then it is 0", zero.safe(0, 0, 0), 1);
+        TwiceOnce longer = keptNine(6);
+        longer.hold(0, 2);
+        due.is("refused, then refused", longer.safe(0, 0, 0), 1);
+        TwiceOnce other = keptNine(6);
+        other.clear();
+        other.row(0, 6, 7);
+        due.is("another key: 9, then 9", other.safe(0, 0, 0), 1);
+    }
+
+    private static void beginsWithWhatEqualKnows() {
+        due.part("all begins as it is now: what EQUAL knows");
+        String text = "set 0 x;get 0;set 0 9";
+        int[][] calls = {{5, 3, 1}, {4, 3, 0}, {5, 2, 0}};
+        for (int[] c : calls) {
+            TwiceOnce t = Due.with(text);
+            t.mend(0, EQUAL, 1);
+            t.call(0, c[0], c[1], 0);
+            t.row(0, 5, 3);
+            // Known: 9 and 9 are answered; else 5 and then 9.
+            due.is("known x " + c[0] + ", key " + c[1], t.safe(0, 0, 0), c[2]);
+        }
+        TwiceOnce fell = Due.with(text);
+        fell.mend(0, EQUAL, 1);
+        fell.call(0, 5, 3, 1);
+        fell.set(0, 0, 9);
+        fell.row(0, 5, 3);
+        due.is("known: no act came", fell.safe(0, 0, 0), 0);
+        TwiceOnce never = Due.with(text);
+        never.mend(0, EQUAL, 1);
+        never.row(0, 0, 0);
+        due.is("nothing is known: 0 and 9", never.safe(0, 0, 0), 0);
+        never.call(0, 0, 0, 0);
+        due.is("known: 9 and 9", never.safe(0, 0, 0), 1);
+        change(never, 0, "set 1 x;get 0;set 0 9");
+        due.is("another act is known: 9 and 9 all the same", never.safe(0, 0, 0), 1);
+        change(never, 0, "set 0 1;get 0;set 0 9");
+        due.is("the last act alone is known: 1 and 1", never.safe(0, 0, 0), 1);
+        change(never, 0, "set 0 1;get 0;set 0 8");
+        due.is("other acts are known: 1 and 8", never.safe(0, 0, 0), 0);
+    }
+
     private static void worstFalls() {
         due.part("WORST: falls 0 .. 5");
         // Only a fall between the two adds leaves one of them; they are 1000 together.
@@ -1263,6 +1355,8 @@ public final class BoundaryTest {
     private static void ordersAndHolds() {
         twoToFourCalls();
         ordersLike();
+        heapsOfActs();
+        everyOrder();
         holdsZeroToTwenty();
         holdsForGaps();
     }
@@ -1317,6 +1411,77 @@ public final class BoundaryTest {
         now.call(0, 9, 0, 0);
         due.is("all begin as it is now", now.orders(0, 1), 3);
         due.is("and it stays so", now.about(0, 0), 9);
+    }
+
+    /** Row of a, which counts, and b, which asks how often a came since, and makes that 0. */
+    private static TwiceOnce countingRow(String behindTheAsk) {
+        TwiceOnce t = Due.with("ask 1 0;" + behindTheAsk, "add 0 x;get 0;if 1 x;set 0 0");
+        t.row(1, 1, 0);
+        t.row(0, 0, 0);
+        return t;
+    }
+
+    private static void heapsOfActs() {
+        due.part("ACTS OUTSIDE (done in it; as a heap: how often each number)");
+        // Once: ab leaves 0, ba leaves 1. With a twice aab leaves 0, aba 1, baa 2: aab may be like
+        // ab, where b is told 1, not 2; aba like ba, where b is told 0, not 1.
+        TwiceOnce t = countingRow("set 0 r;if 0 2;do 7;do 8;if 0 1;do 7;set 0 0");
+        due.is("8 7 and 7 8", t.orders(0, 1), 1);
+        change(t, 0, "ask 1 0;do r;do 1;do 2");
+        due.is("1 1 2 and 2 1 2", t.orders(0, 1), 0);
+        change(t, 0, "ask 1 0;set 0 r;if 0 1;do 3;do 3;set 0 0");
+        due.is("3 3 and 3", t.orders(0, 1), 0);
+        change(t, 0, "ask 1 0;set 0 r;if 0 2;do 3;do 3;set 0 0");
+        due.is("3 and 3 3; but aba is like ba", t.orders(0, 1), 1);
+        change(t, 0, "ask 1 0;do 3;do 3");
+        t.call(0, 0, 0, 0);
+        due.is("3 3 and 3 3", t.orders(0, 1), 2);
+        change(t, 0, "ask 1 0");
+        due.is("none and none", t.orders(0, 1), 2);
+        change(t, 0, "ask 1 0;set 0 r;if 0 2;do 0;set 0 0");
+        due.is("none and 0; but aba is like ba", t.orders(0, 1), 1);
+        change(t, 0, "ask 1 0;set 0 r;if 0 1;do 0;set 0 0");
+        due.is("0 and none", t.orders(0, 1), 0);
+        change(t, 0, "ask 1 0;set 0 r;if 0 2;do 999;do 0;if 0 1;do 999;set 0 0");
+        due.is("0 999 and 999 0", t.orders(0, 1), 1);
+        heapsOfManyActs();
+    }
+
+    private static void everyOrder() {
+        due.part("ORDERS: like some order in which each comes once");
+        // The cells keep the latest four x: no two orders of four end alike.
+        String latestFour = "get 2;set 3 r;get 1;set 2 r;get 0;set 1 r;set 0 x";
+        TwiceOnce t = Due.with(latestFour);
+        int[] unkeyed = {0, 0, 24};
+        int[] keyed = {3, 12, 60};
+        t.row(0, 1, 1);
+        for (int n = 2; n <= 4; n++) {
+            t.row(0, n, n);
+            for (int place = 0; place < n; place++) {
+                // Of five the first one is forgotten: it must be the one that comes twice.
+                t.mend(0, KEYED, 0);
+                due.is("of " + n + ", place " + place, t.orders(place, 1), unkeyed[n - 2]);
+                t.mend(0, KEYED, 1);
+                due.is("of " + n + ", place " + place, t.orders(place, 1), keyed[n - 2]);
+            }
+        }
+        TwiceOnce zero = Due.with("add 0 500", "get 0");
+        zero.row(0, 0, 0);
+        zero.row(1, 0, 0);
+        due.is("twice 500 is as nothing, but no order ends so", zero.orders(0, 1), 0);
+    }
+
+    private static void heapsOfManyActs() {
+        String sixAsks = "ask 5 x;ask 5 x;ask 5 x;ask 5 x;ask 5 x;ask 5 x";
+        TwiceOnce t = Due.with(sixAsks, "get 0", "get 0", "get 0", "get 0",
+                "do x;do 4;do 3;do x;do 2;do 1;do x;do 0");
+        for (int x = 1; x <= 4; x++) {
+            t.row(0, x, x);
+        }
+        due.is("192 once, 240 with one twice", t.orders(0, 1), 0);
+        t.mend(0, KEYED, 1);
+        due.is("192 both times", t.orders(0, 1), 60);
+        due.is("192 both times", t.orders(3, 1), 60);
     }
 
     private static void holdsZeroToTwenty() {

@@ -122,7 +122,7 @@ public final class RefusalTest {
     // ---- services
 
     private static void feed() {
-        due.part("promise 2, edges");
+        due.part("feed: BAD: n not 1 .. 8; FULL");
         for (int n = 1; n <= 8; n++) {
             TwiceOnce t = new TwiceOnce();
             due.is("n " + n, t.feed(-1L, n), n);
@@ -158,7 +158,7 @@ public final class RefusalTest {
     }
 
     private static void service() {
-        due.part("promise 3, edges");
+        due.part("service: -10 less the FAULT; FULL (ahead of the FAULT; THE TAPE stays)");
         for (String tape : new String[] {"", "get 3", "get 4", "?".repeat(100)}) {
             Twin.Use story = t -> {
                 brimWithoutTape(t);
@@ -198,7 +198,7 @@ public final class RefusalTest {
     }
 
     private static void change() {
-        due.part("promise 4, edges");
+        due.part("change: NONE; -10 less the FAULT");
         for (int story = 0; story < 3; story++) {
             twin(story).refusesMixes("change", new int[][] {serviceOf(story)},
                     (t, s, b, c) -> t.change(s));
@@ -218,7 +218,7 @@ public final class RefusalTest {
     }
 
     private static void mend() {
-        due.part("promise 5, edges");
+        due.part("mend: NONE; BAD");
         for (int story = 0; story < 3; story++) {
             twin(story).refusesMixes("mend", new int[][] {serviceOf(story), to(3, NONE), to(1, BAD)},
                     TwiceOnce::mend);
@@ -231,7 +231,7 @@ public final class RefusalTest {
     }
 
     private static void hold() {
-        due.part("promise 6, edges");
+        due.part("hold: NONE; BAD");
         for (int story = 0; story < 3; story++) {
             twin(story).refusesMixes("hold", new int[][] {serviceOf(story), to(99, BAD)},
                     (t, s, ticks, c) -> t.hold(s, ticks));
@@ -243,7 +243,7 @@ public final class RefusalTest {
     }
 
     private static void set() {
-        due.part("promise 7, edges");
+        due.part("set: NONE; BAD");
         for (int story = 0; story < 3; story++) {
             twin(story).refusesMixes("set", new int[][] {serviceOf(story), to(3, NONE), to(999, BAD)},
                     TwiceOnce::set);
@@ -260,7 +260,7 @@ public final class RefusalTest {
     }
 
     private static void about() {
-        due.part("promise 8, edges");
+        due.part("about: what 0 .. 7; NONE");
         for (int story = 0; story < 3; story++) {
             twin(story).refusesMixes("about", new int[][] {serviceOf(story), to(7, NONE)},
                     (t, s, what, c) -> t.about(s, what));
@@ -277,7 +277,7 @@ public final class RefusalTest {
     }
 
     private static void act() {
-        due.part("promise 9, edges");
+        due.part("act: what 0 .. 2; NONE");
         for (int story = 0; story < 3; story++) {
             twin(story).refusesMixes("act", new int[][] {serviceOf(story), to(1, NONE), to(2, NONE)},
                     TwiceOnce::act);
@@ -293,7 +293,7 @@ public final class RefusalTest {
     }
 
     private static void call() {
-        due.part("promise 10, edges");
+        due.part("call: -3: NONE; -4: BAD: x, key (0 .. 99), fall (0 .. 99)");
         for (int story = 0; story < 3; story++) {
             int[] s = to(SERVICES[story] - 1, -3);
             for (int fall : new int[] {0, 99}) {
@@ -320,7 +320,7 @@ public final class RefusalTest {
 
     /** -1 and -2 are answers, not refusals: a tick goes by, and the log has the call. */
     private static void callAnswers() {
-        due.part("promise 10, answers below 0");
+        due.part("call: ANSWERS below 0 are no refusals");
         TwiceOnce t = Due.with("add 0 1;add 0 1");
         t.mend(0, 0, 1);
         due.is("a fall", t.call(0, 5, 6, 2), -2);
@@ -336,7 +336,7 @@ public final class RefusalTest {
     }
 
     private static void outside() {
-        due.part("promise 11, edges");
+        due.part("outside: NONE");
         int[] kept = {0, 1, 40};
         for (int story = 0; story < 3; story++) {
             twin(story).refusesMixes("outside", new int[][] {to(kept[story] - 1, NONE)},
@@ -353,7 +353,7 @@ public final class RefusalTest {
     // ---- rows
 
     private static void row() {
-        due.part("promise 12, edges");
+        due.part("row: NONE; BAD: x, key; FULL");
         for (int story = 0; story < 3; story++) {
             twin(story).refusesMixes("row",
                     new int[][] {serviceOf(story), to(999, BAD), to(99, BAD)}, TwiceOnce::row);
@@ -379,7 +379,7 @@ public final class RefusalTest {
     }
 
     private static void clear() {
-        due.part("promise 13, edges");
+        due.part("clear: how many it had");
         for (int story = 0; story < 3; story++) {
             TwiceOnce t = told(STORIES[story]);
             due.is("had", t.clear(), ROWS[story]);
@@ -392,7 +392,7 @@ public final class RefusalTest {
     }
 
     private static void free() {
-        due.part("promise 14, edges");
+        due.part("free: BAD");
         for (int story = 0; story < 3; story++) {
             twin(story).refusesMixes("free", new int[][] {to(1, BAD)}, (t, is, b, c) -> t.free(is));
         }
@@ -406,7 +406,7 @@ public final class RefusalTest {
     }
 
     private static void safe() {
-        due.part("promise 15, edges");
+        due.part("safe: NONE: place; BAD: gap, fall (0 .. 99)");
         for (int story = 0; story < 3; story++) {
             Twin twin = twin(story);
             for (int place : new int[] {Integer.MIN_VALUE, -1, ROWS[story], Integer.MAX_VALUE}) {
@@ -446,13 +446,13 @@ public final class RefusalTest {
     }
 
     private static void worst() {
-        due.part("promise 16, edges");
+        due.part("worst: NONE: it is SAFE");
         looksOnly("worst", TwiceOnce::worst);
         due.is("of an empty row", told(RefusalTest::bare).worst(), NONE);
     }
 
     private static void orders() {
-        due.part("promise 17, edges");
+        due.part("orders: NONE: place, what; STATE: the ROW has not 2 to 4");
         int[] many = {NONE, STATE, 3, 12, 60, STATE, STATE};
         for (int calls = 0; calls <= 6; calls++) {
             int n = calls;
@@ -479,13 +479,13 @@ public final class RefusalTest {
     }
 
     private static void enough() {
-        due.part("promise 18, edges");
+        due.part("enough: NONE: none");
         looksOnly("enough", TwiceOnce::enough);
         due.is("of an empty row", told(RefusalTest::bare).enough(), 0);
     }
 
     private static void price() {
-        due.part("promise 19, edges");
+        due.part("price: NONE; BAD");
         for (int story = 0; story < 3; story++) {
             twin(story).refusesMixes("price", new int[][] {to(3, NONE), to(99, BAD)},
                     (t, m, p, c) -> t.price(m, p));
@@ -499,7 +499,7 @@ public final class RefusalTest {
     }
 
     private static void cheapest() {
-        due.part("promise 20, edges");
+        due.part("cheapest: NONE: what; STATE: the ROW has more; BIG; NONE: no set is enough");
         for (int story = 0; story < 3; story++) {
             twin(story).refusesMixes("cheapest", new int[][] {to(1, NONE)},
                     (t, what, b, c) -> t.cheapest(what));
@@ -523,13 +523,13 @@ public final class RefusalTest {
     // ---- logs
 
     private static void again() {
-        due.part("promise 21, edges");
+        due.part("again: nothing is changed by asking");
         looksOnly("again", TwiceOnce::again);
         due.is("of an empty log", told(RefusalTest::bare).again(), 1);
     }
 
     private static void log() {
-        due.part("promise 22, edges");
+        due.part("log: NONE");
         int[] calls = {0, 3, 20};
         for (int story = 0; story < 3; story++) {
             twin(story).refusesMixes("log", new int[][] {to(calls[story] - 1, NONE), to(2, NONE)},
@@ -547,7 +547,7 @@ public final class RefusalTest {
     }
 
     private static void reset() {
-        due.part("promise 23, edges");
+        due.part("reset: how many CALLS were in the LOG");
         int[] calls = {0, 3, 20};
         for (int story = 0; story < 3; story++) {
             TwiceOnce t = told(STORIES[story]);
@@ -564,7 +564,7 @@ public final class RefusalTest {
     }
 
     private static void count() {
-        due.part("promise 24, edges");
+        due.part("count: what 0 .. 5; NONE");
         for (int story = 0; story < 3; story++) {
             twin(story).refusesMixes("count", new int[][] {to(5, NONE)}, (t, what, b, c) -> t.count(what));
         }
