@@ -854,6 +854,10 @@ public final class BoundaryTest {
             t.call(0, 0, 0, 0);
             due.is("'" + text + "' is held back", t.count(2), 1);
         }
+        for (String text : new String[] {"set 0 0", "set 0 1", "set 0 999", "set 1 999", "set 3 0",
+            "max 0 1", "max 2 999", "do 0", "do 1", "do 999"}) {
+            noneCame(text);
+        }
         TwiceOnce t = Due.with("if 0 1;do 0");
         t.mend(0, EQUAL, 1);
         t.call(0, 0, 0, 0);
@@ -867,6 +871,26 @@ public final class BoundaryTest {
         t.set(0, 0, 1);
         t.call(0, 0, 0, 0);
         due.is("none came there in the latest", t.count(2), 2);
+    }
+
+    /** An act that was passed over in the latest call is done when it comes; then it is known. */
+    private static void noneCame(String text) {
+        String[] parts = text.split(" ");
+        boolean isDo = parts[0].equals("do");
+        int cell = isDo ? 0 : Integer.parseInt(parts[1]);
+        int value = Integer.parseInt(parts[parts.length - 1]);
+        int before = parts[0].equals("set") ? 500 : 0;
+        TwiceOnce t = Due.with("if " + (cell + 1) % 4 + " 1;" + text);
+        t.mend(0, EQUAL, 1);
+        t.set(0, cell, before);
+        t.call(0, 6, 6, 0);
+        due.is(text + " is passed over", isDo ? t.count(2) : t.about(0, cell), isDo ? 0 : before);
+        t.set(0, (cell + 1) % 4, 1);
+        t.call(0, 6, 6, 0);
+        due.is(text + " is done", isDo ? t.outside(0) : t.about(0, cell), value);
+        t.set(0, cell, before);
+        t.call(0, 6, 6, 0);
+        due.is(text + " is held back", isDo ? t.count(2) : t.about(0, cell), isDo ? 1 : before);
     }
 
     private static void knownOfThePlace() {
@@ -1444,6 +1468,12 @@ public final class BoundaryTest {
         due.is("0 and none", t.orders(0, 1), 0);
         change(t, 0, "ask 1 0;set 0 r;if 0 2;do 999;do 0;if 0 1;do 999;set 0 0");
         due.is("0 999 and 999 0", t.orders(0, 1), 1);
+        // The last cell is 9 and 1 is done, or the other way round.
+        TwiceOnce last = Due.with("ask 4 0;set 0 r;if 0 1;ask 5 9;if 0 2;ask 5 1;set 0 0", "get 0",
+                "get 0", "get 0", "add 0 x;get 0;if 1 x;set 0 0", "set 3 x;if 3 9;do 1;if 3 1;do 9");
+        last.row(4, 1, 0);
+        last.row(0, 0, 0);
+        due.is("a cell is no act", last.orders(0, 1), 0);
         heapsOfManyActs();
     }
 
@@ -1620,14 +1650,24 @@ public final class BoundaryTest {
             t.mend(s, EQUAL, 1);
             bothCheapest(t, "it is safe as it is", 0, 0);
         }
-        // KEYED of the one that asks, or that of the asked one with PASS; with prices 2, 0, 0 the
-        // latter costs as much, but its number is greater.
+        for (int upper = 1; upper <= 5; upper++) {
+            TwiceOnce far = Due.with("get 0", "get 0", "get 0", "get 0", "get 0", "get 0");
+            change(far, upper, "add 0 1");
+            far.row(0, 1, 5);
+            far.row(upper, 1, 5);
+            bothCheapest(far, "0 is reached, " + upper + " is mended", 1, 1 << 4 * upper);
+            change(far, 0, "do 2;add 0 1");
+            far.mend(0, KEYED, 1);
+            far.price(EQUAL, 3);
+            bothCheapest(far, "0 and " + upper, 4, 8 + (1 << 4 * upper));
+        }
+        // KEYED of the one that asks is enough, or that of the asked one with PASS: 1 or 4 + 16.
         TwiceOnce t = Due.with("ask 1 x", "add 0 x");
         t.row(0, 1, 5);
-        bothCheapest(t, "the asker's", 1, 1);
+        bothCheapest(t, "the asker's is cheaper", 1, 1);
         t.price(PASS, 0);
-        bothCheapest(t, "the asker's", 1, 1);
-        // EQUAL holds back no add; with FIRST a fall ahead of the add is never made good.
+        bothCheapest(t, "both cost the same", 1, 1);
+        // Now KEYED of the asker would keep the key of a call that fell ahead of the add.
         t.mend(0, FIRST, 1);
         bothCheapest(t, "the asked one's", 1, 4 + 16);
     }
