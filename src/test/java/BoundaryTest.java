@@ -23,6 +23,7 @@ public final class BoundaryTest {
         ordersAndHolds();
         cheapestMends();
         logs();
+        callsOfAnObject();
         due.end();
     }
 
@@ -1563,6 +1564,7 @@ public final class BoundaryTest {
     private static void cheapestMends() {
         threeCallsTwoServices();
         pricesOfMends();
+        holdsAsTheyAre();
         leastAsANumber();
     }
 
@@ -1629,6 +1631,25 @@ public final class BoundaryTest {
         t.clear();
         t.row(0, 1, 0);
         bothCheapest(t, "no set is enough", NONE, NONE);
+    }
+
+    private static void holdsAsTheyAre() {
+        due.part("CHEAPEST: additions alone, all else as it is");
+        TwiceOnce t = Due.with("add 0 1", "get 0");
+        t.row(0, 1, 5);
+        t.row(1, 1, 6);
+        t.hold(0, 1);
+        bothCheapest(t, "HOLD 1: a gap of one is too long", NONE, NONE);
+        t.hold(0, 2);
+        bothCheapest(t, "HOLD 2", 1, 1);
+        t.call(0, 2, 5, 0);
+        bothCheapest(t, "nothing was kept", 1, 1);
+        t.mend(0, KEYED, 1);
+        t.call(0, 1, 5, 0);
+        // Kept in tick 2: answered in tick 3, over in tick 5.
+        bothCheapest(t, "kept, but not long enough", NONE, NONE);
+        t.hold(0, 3);
+        bothCheapest(t, "kept up to tick 5", 0, 0);
     }
 
     private static void leastAsANumber() {
@@ -1784,5 +1805,29 @@ public final class BoundaryTest {
         due.is("asks one that is none", later.about(0, 7), 0);
         change(later, 1, "ask 0 0");
         due.is("asks one that asks no one", later.about(0, 7), 1);
+    }
+
+    // ---- an object
+
+    private static void callsOfAnObject() {
+        due.part("an object is used for at most 512 calls");
+        TwiceOnce t = new TwiceOnce();
+        t.feed(0x6e65772030L, 5);
+        t.service();
+        for (int i = 1; i <= 509; i++) {
+            due.is("call " + i, t.call(0, 0, 0, 0), i);
+        }
+        due.is("the 512th call", t.count(3), 509);
+        TwiceOnce much = Due.with("ask 1 0;ask 1 0;ask 1 0;ask 1 0;ask 1 0;ask 1 0;do x",
+                "do 1;do 2;do 3;do 4;do 5;do 6;do 7;do 8");
+        // 14 calls were used up to here.
+        for (int i = 0; i < 490; i++) {
+            much.call(0, i, 0, 0);
+        }
+        due.is("49 acts each", much.count(2), 490 * 49);
+        due.is("the latest", much.outside(0), 489);
+        due.is("the 40th", much.outside(39), 2);
+        due.is("the log", much.log(0, 1), 470);
+        due.is("again", much.again(), 0);
     }
 }
