@@ -26,7 +26,8 @@ public final class TwiceOnce {
     private static final int REFUSED = -1, FALLEN = -2;
 
     // A ROW's CALLS with one that comes again do 7 * 60 ACTS at most: a trial never wraps around.
-    private static final int DONE_ROOM = 512;
+    // A power of two, so that a mask keeps every index inside, whatever was counted.
+    private static final int DONE_ROOM = 512, DONE_MASK = DONE_ROOM - 1;
 
     private final Tape tape = new Tape();
     private final World now = new World();
@@ -172,7 +173,7 @@ public final class TwiceOnce {
         if (!within(i, Math.min(now.doneInAll, KEPT_OUTSIDE) - 1)) {
             return NONE;
         }
-        return now.done[(now.doneInAll - 1 - i) % DONE_ROOM];
+        return now.done[now.doneInAll - 1 - i & DONE_MASK];
     }
 
     // ---- rows
@@ -379,7 +380,10 @@ public final class TwiceOnce {
             if (value == VALUE_X) {
                 return x;
             }
-            return value == VALUE_R ? Math.max(answer, 0) : value;
+            if (value == VALUE_R) {
+                return answer > 0 ? answer : 0;
+            }
+            return value;
         }
     }
 
@@ -691,7 +695,7 @@ public final class TwiceOnce {
                     cells[c] = (cells[c] + value) % NUMBERS;
                     return answer;
                 case MAX:
-                    cells[c] = Math.max(cells[c], value);
+                    cells[c] = value > cells[c] ? value : cells[c];
                     return answer;
                 case NEW:
                     counter = (counter + 1) % NUMBERS;
@@ -882,7 +886,7 @@ public final class TwiceOnce {
                         return FALLEN;
                     }
                 } else if (word == DO) {
-                    done[doneInAll % DONE_ROOM] = value;
+                    done[doneInAll & DONE_MASK] = value;
                     doneInAll++;
                 } else if (word == IF) {
                     passedOver = service.passesOver(place, value);

@@ -16,8 +16,8 @@ final class Due {
         }
     }
 
-    int wrong() {
-        return wrong;
+    int asked() {
+        return asked;
     }
 
     void end() {

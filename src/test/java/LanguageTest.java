@@ -163,11 +163,10 @@ public final class LanguageTest {
             }
             TypeElement in = (TypeElement) e.getEnclosingElement();
             String owner = in.getQualifiedName().toString();
-            if (owner.startsWith("TwiceOnce")) {
-                if (!method.isEmpty()) {
-                    calls.get(method).add(nameOf(e));
-                }
-            } else {
+            if (!method.isEmpty()) {
+                calls.get(method).add(nameOf(e));
+            }
+            if (!owner.startsWith("TwiceOnce")) {
                 check(LIBRARY.contains(owner), "calls " + owner + "." + e);
                 check(!e.getSimpleName().toString().endsWith("Exact"), "calls " + e);
             }

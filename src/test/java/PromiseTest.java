@@ -1,55 +1,123 @@
+import java.util.Arrays;
+
 /** Each promise of the document: ordinary inputs, edges, wrong inputs. */
 public final class PromiseTest {
     private static final Due due = new Due();
     private static final int LEAST = Integer.MIN_VALUE, MOST = Integer.MAX_VALUE;
+    private static final int PROMISES = 24;
 
     private PromiseTest() {
     }
 
+    /** All promises, or those whose numbers are told. */
     public static void main(String[] args) {
-        newObject();
-        feed();
-        serviceWords();
-        serviceFaults();
-        serviceFull();
-        change();
-        mend();
-        hold();
-        set();
-        about();
-        reader();
-        act();
-        callActs();
-        callAsk();
-        callLimits();
-        callRefusals();
-        keyed();
-        keyedRoom();
-        keyedHold();
-        first();
-        pass();
-        equal();
-        equalKnows();
-        falls();
-        outside();
-        row();
-        clear();
-        free();
-        safe();
-        worst();
-        orders();
-        ordersCompare();
-        enough();
-        price();
-        cheapest();
-        cheapestChoice();
-        again();
-        log();
-        reset();
-        count();
-        sixServices();
-        trialsChangeNothing();
+        for (int n = 1; n <= PROMISES; n++) {
+            if (args.length > 0 && !Arrays.asList(args).contains(Integer.toString(n))) {
+                continue;
+            }
+            int askedBefore = due.asked();
+            promise(n);
+            due.part("promise " + n);
+            due.is("has a test of its own", due.asked() > askedBefore ? 1 : 0, 1);
+        }
         due.end();
+    }
+
+    private static void promise(int n) {
+        switch (n) {
+            case 1:
+                newObject();
+                break;
+            case 2:
+                feed();
+                break;
+            case 3:
+                serviceWords();
+                serviceFaults();
+                serviceFull();
+                sixServices();
+                break;
+            case 4:
+                change();
+                break;
+            case 5:
+                mend();
+                break;
+            case 6:
+                hold();
+                break;
+            case 7:
+                set();
+                break;
+            case 8:
+                about();
+                reader();
+                break;
+            case 9:
+                act();
+                break;
+            case 10:
+                callActs();
+                callAsk();
+                callLimits();
+                callRefusals();
+                keyed();
+                keyedRoom();
+                keyedHold();
+                first();
+                pass();
+                equal();
+                equalKnows();
+                falls();
+                break;
+            case 11:
+                outside();
+                break;
+            case 12:
+                row();
+                break;
+            case 13:
+                clear();
+                break;
+            case 14:
+                free();
+                break;
+            case 15:
+                safe();
+                trialsChangeNothing();
+                break;
+            case 16:
+                worst();
+                break;
+            case 17:
+                orders();
+                ordersCompare();
+                break;
+            case 18:
+                enough();
+                break;
+            case 19:
+                price();
+                break;
+            case 20:
+                cheapest();
+                cheapestChoice();
+                break;
+            case 21:
+                again();
+                break;
+            case 22:
+                log();
+                break;
+            case 23:
+                reset();
+                break;
+            case 24:
+                count();
+                break;
+            default:
+                break;
+        }
     }
 
     private static void newObject() {
@@ -225,6 +293,24 @@ public final class PromiseTest {
         due.is("mend stays", t.mend(0, 0, 1), 1);
         due.is("hold stays", t.hold(0, 1), 30);
         due.is("services", t.count(0), 1);
+        changeLeavesTheRest();
+    }
+
+    private static void changeLeavesTheRest() {
+        TwiceOnce t = Due.with("set 0 x;do x", "get 0");
+        t.mend(0, 3, 1);
+        t.call(0, 5, 0, 0);
+        t.row(0, 6, 7);
+        t.set(0, 0, 0);
+        Due.feed(t, "set 0 x;do 6;get 0");
+        due.is("change", t.change(0), 3);
+        due.is("the other service", t.about(1, 6), 1);
+        due.is("row", t.count(1), 1);
+        due.is("outside", t.outside(0), 5);
+        due.is("ticks", t.count(3), 1);
+        due.is("log", t.log(0, 1), 5);
+        due.is("what EQUAL knows", t.call(0, 5, 0, 0), 0);
+        due.is("another act is done", t.outside(0), 6);
     }
 
     private static void mend() {
@@ -463,7 +549,7 @@ public final class PromiseTest {
     }
 
     private static void keyed() {
-        due.part("keyed");
+        due.part("promise 10, keyed");
         TwiceOnce t = Due.with("add 0 x;do x;new 1", "ask 2 x;set 0 r", "add 0 1;get 0");
         due.is("no mend", t.call(0, 1, 5, 0), 1);
         due.is("nothing is kept", t.about(0, 5), 0);
@@ -487,7 +573,7 @@ public final class PromiseTest {
     }
 
     private static void keyedRoom() {
-        due.part("keyed, 16 keys");
+        due.part("promise 10, keyed, 16 keys");
         TwiceOnce t = Due.with("new 0");
         t.mend(0, 0, 1);
         t.hold(0, 99);
@@ -517,7 +603,7 @@ public final class PromiseTest {
     }
 
     private static void keyedHold() {
-        due.part("keyed, hold");
+        due.part("promise 10, keyed, hold");
         TwiceOnce t = Due.with("new 0", "get 0");
         t.mend(0, 0, 1);
         t.hold(0, 2);
@@ -551,7 +637,7 @@ public final class PromiseTest {
     }
 
     private static void first() {
-        due.part("first");
+        due.part("promise 10, first");
         TwiceOnce t = Due.with("add 0 1;get 0");
         t.mend(0, 1, 1);
         due.is("first alone", t.call(0, 0, 5, 0), 1);
@@ -573,7 +659,7 @@ public final class PromiseTest {
     }
 
     private static void pass() {
-        due.part("pass");
+        due.part("promise 10, pass");
         TwiceOnce t = Due.with("get 0;ask 1 x;ask 1 x", "new 0");
         t.mend(1, 0, 1);
         due.is("no key is passed", t.call(0, 3, 98, 0), 2);
@@ -600,10 +686,29 @@ public final class PromiseTest {
         due.is("r of a refused ask", wrong.outside(0), 0);
         // Place 3 passes (2 + 21) modulo 99 and 1 more.
         due.is("key of place 3", wrong.call(1, 9, 24, 0), 2);
+        passAlongAChain();
+    }
+
+    private static void passAlongAChain() {
+        TwiceOnce t = Due.with("get 0;ask 1 x", "ask 2 x", "new 0");
+        t.mend(2, 0, 1);
+        t.mend(1, 2, 1);
+        due.is("not by the PASS of the asked one", t.call(0, 3, 10, 0), 1);
+        due.is("keys", t.about(2, 5), 0);
+        t.mend(0, 2, 1);
+        due.is("passed twice", t.call(0, 3, 10, 0), 2);
+        due.is("keys", t.about(2, 5), 1);
+        // 10 passes (10 + 7) modulo 99 and 1 more, which passes 18 modulo 99 and 1 more.
+        due.is("the key of a key", t.call(2, 3, 19, 0), 2);
+        due.is("answered along the chain", t.call(0, 3, 10, 0), 2);
+        due.is("refused along the chain", t.call(0, 4, 10, 0), -1);
+        t.mend(1, 2, 0);
+        due.is("0 is passed from there on", t.call(0, 3, 10, 0), 3);
+        due.is("keys", t.about(2, 5), 1);
     }
 
     private static void equal() {
-        due.part("equal");
+        due.part("promise 10, equal");
         TwiceOnce t = Due.with("set 0 x;max 1 x;do x;add 2 1;new 3;get 0");
         t.mend(0, 3, 1);
         due.is("call", t.call(0, 5, 0, 0), 5);
@@ -670,7 +775,7 @@ public final class PromiseTest {
     }
 
     private static void equalKnows() {
-        due.part("equal, what is known");
+        due.part("promise 10, equal, what is known");
         TwiceOnce t = Due.with("if 0 0;do 1;do 2", "ask 2 x", "do 7");
         t.call(0, 5, 0, 0);
         t.mend(0, 3, 1);
@@ -707,7 +812,7 @@ public final class PromiseTest {
     }
 
     private static void falls() {
-        due.part("falls");
+        due.part("promise 10, falls");
         TwiceOnce t = Due.with("add 0 1;if 1 1;add 0 1;ask 1 x;add 2 1", "add 0 1;add 0 1;get 0");
         t.mend(0, 0, 1);
         t.mend(1, 0, 1);
@@ -1090,7 +1195,7 @@ public final class PromiseTest {
     }
 
     private static void sixServices() {
-        due.part("six services");
+        due.part("promise 3, six services");
         TwiceOnce t = Due.with("ask 5 x", "get 0", "get 0", "get 0", "get 0", "add 3 x;do x");
         t.mend(5, 0, 1);
         t.mend(0, 2, 1);
@@ -1420,7 +1525,7 @@ public final class PromiseTest {
     }
 
     private static void trialsChangeNothing() {
-        due.part("trials change nothing");
+        due.part("promise 15, trials change nothing");
         TwiceOnce t = Due.with("add 0 x;new 1;do x;ask 1 x", "set 0 x;new 2;get 0");
         t.mend(0, 0, 1);
         t.mend(1, 3, 1);
